@@ -484,7 +484,7 @@ public final class SpineTables {
 
         void closeRow() {
             putByte(10);
-            if (!overfull) {
+            if (!overfull && count < MOST_ROWS) {
                 count++;
                 starts[count] = size;
                 firsts[count] = tokens;
@@ -1113,7 +1113,8 @@ public final class SpineTables {
         void fill(Table table) {
             Rows rows = table.rows;
             for (int r = 0; r < rows.count; r++) {
-                for (int i = 0; rows.sortOf(r) == DATA && i < rows.tokensOf(r); i++) {
+                int tokens = rows.sortOf(r) == DATA ? rows.tokensOf(r) : 0;
+                for (int i = 0; i < tokens; i++) {
                     int token = rows.tokenOf(r, i);
                     boolean has = measure(table, token);
                     table.putLength(token, has ? above : 0, has ? below : 1);
@@ -1641,7 +1642,7 @@ public final class SpineTables {
         }
 
         private void putRemarksAhead(Side side) {
-            while (side.hasNext() && side.sort() == REMARK) {
+            for (int n = 0; n < MOST_ROWS && side.sort() == REMARK; n++) {
                 putAlone(side, side == left ? right : left);
             }
         }

@@ -71,6 +71,7 @@ public final class FaultTest {
         T.begin();
         right("**a", "*-");
         right("**abcdefgh|**kern", "*-|*-");
+        right("**az|**za", "*-|*-");
         String[] wrongs = {"**", "**abcdefghi", "**Kern", "**k1", "*kern", "4c", "!x", "=", "***", "**a ", "*", "**{", "**`"};
         for (String wrong : wrongs) {
             fault(3, "@" + wrong);
@@ -197,6 +198,16 @@ public final class FaultTest {
     }
 
     private static void ends() {
+        T.begin();
+        // What was cut off is not looked at.
+        T.tape("!!");
+        T.x.cut(1);
+        T.due("read of one !", T.x.read(), -10);
+        T.due("fault of one !", T.x.fault(), 3);
+        T.tape("**kern\n*-\n*-");
+        T.x.cut(9);
+        T.due("read of what is left", T.x.read(), 0);
+        T.due("bytes of it", T.x.told(0, 6), 10);
         T.begin();
         T.dueRight("");
         T.dueRight("!!");

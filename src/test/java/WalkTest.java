@@ -43,6 +43,8 @@ public final class WalkTest {
         misfit(1, 1, "**recip|**recip", "x|.", "!|!", "*-|*-");
         fits("**text", "*", "!", "=", "*-");
         fits("**text|**kern", ".|4c", "x|4c", "*-|*-");
+        // NOW goes by the STRANDS that there are right behind the ACTS.
+        fits("**recip|**recip", "2|4", "*|*", "*|*-", "*-");
         fits();
         fits("!!x");
     }
@@ -75,6 +77,14 @@ public final class WalkTest {
         T.noIndex("time row ahead of part", () -> T.x.time(0, 12, 2));
         T.noArgument("time part 2", () -> T.x.time(0, 0, 2));
         T.noArgument("time part -1", () -> T.x.time(0, 0, -1));
+    }
+
+    private static void mostRows() {
+        T.begin();
+        T.due("read", T.read("**recip\n" + Trial.repeat("4\n", 198) + "*-\n"), 0);
+        dueTime(199, 99, 2);
+        dueTime(200, 99, 2);
+        T.noIndex("one more", () -> T.x.time(0, 201, 0));
     }
 
     private static void newStrands() {
@@ -205,6 +215,7 @@ public final class WalkTest {
         misfits();
         tooGreat();
         times();
+        mostRows();
         newStrands();
         splitsAndJoins();
         reciprocals();
