@@ -346,6 +346,15 @@ public final class SpineTables {
             }
         }
 
+        /** REMARK, or the SORT of a RECORD: the LINE's own first bytes tell it. */
+        static int sortOfLine(byte[] text, int start, int end) {
+            if (text == null || start < 0 || end > text.length || start >= end) {
+                return DATA;
+            }
+            boolean isRemark = end - start >= 2 && text[start] == '!' && text[start + 1] == '!';
+            return isRemark ? REMARK : sortOf(text[start]);
+        }
+
         static boolean isRun(byte[] text, int start, int end) {
             return text != null && start >= 0 && start <= end && end <= text.length;
         }
@@ -438,12 +447,9 @@ public final class SpineTables {
             firsts[0] = 0;
         }
 
-        void openRow(int sort) {
+        void openRow() {
             if (count >= MOST_ROWS) {
                 overfull = true;
-            }
-            if (!overfull) {
-                sorts[count] = sort;
             }
         }
 
@@ -477,14 +483,22 @@ public final class SpineTables {
         }
 
         void putRemark(byte[] from, int start, int end) {
-            openRow(REMARK);
+            openRow();
             putBytes(from, start, end);
             closeRow();
         }
 
+        /**
+         * What the ROW is, its LINE tells as it stands here: TOKENS of NOTES that come without those that stood
+         * ahead of them may be a REMARK, which has no TOKENS.
+         */
         void closeRow() {
             putByte(10);
             if (!overfull && count < MOST_ROWS) {
+                sorts[count] = Words.sortOfLine(text, starts[count], size - 1);
+                if (sorts[count] == REMARK) {
+                    tokens = firsts[count];
+                }
                 count++;
                 starts[count] = size;
                 firsts[count] = tokens;
@@ -874,7 +888,7 @@ public final class SpineTables {
                 lineEnd = findByte(10, start, size);
                 if (n == MOST_ROWS) {
                     blame(7, start);
-                } else if (byteAt(start) == '!' && byteAt(start + 1) == '!') {
+                } else if (Words.sortOfLine(text, start, lineEnd) == REMARK) {
                     takeRemark(start);
                 } else {
                     takeRecord(n, start);
@@ -925,7 +939,7 @@ public final class SpineTables {
             adds = 0;
             grown = 0;
             splitLine(start);
-            into.rows.openRow(sort);
+            into.rows.openRow();
         }
 
         /** The 13th TOKEN is a FAULT in every RECORD, so no more are looked for. */
@@ -1527,7 +1541,7 @@ public final class SpineTables {
         }
 
         private void copyRecord(Table table, int r, int kind, int added, Rows into) {
-            into.openRow(table.rows.sortOf(r));
+            into.openRow();
             for (int i = 0; i < table.rows.tokensOf(r); i++) {
                 if (!isOf(table, r, i, kind)) {
                     continue;
@@ -1698,7 +1712,7 @@ public final class SpineTables {
         }
 
         private boolean putBoth() {
-            into.openRow(left.sort());
+            into.openRow();
             into.putTokensOf(left.table.rows, left.next);
             into.putTokensOf(right.table.rows, right.next);
             into.closeRow();
@@ -1719,7 +1733,7 @@ public final class SpineTables {
                 return false;
             }
             needRoom(own, other);
-            into.openRow(sort);
+            into.openRow();
             into.putLones(emptyToken(sort), own == right ? other.strands : 0);
             into.putTokensOf(from, own.next);
             into.putLones(emptyToken(sort), own == left ? other.strands : 0);

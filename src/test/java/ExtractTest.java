@@ -64,13 +64,51 @@ public final class ExtractTest {
         T.due("at", T.x.walk(2), 1);
     }
 
-    /** A RECORD of NOTES stays one, also where its first TOKEN begins with !! then. */
-    private static void notesThatLookLikeRemarks() {
+    /** NOTES whose LINE begins with !! when the TOKENS ahead have gone are a REMARK, with all that follows from it. */
+    private static void notesThatBecomeRemarks() {
         T.begin();
-        T.read(new String[] {"**text|**kern", "!|!!x", "*-|*-"});
+        T.read(new String[] {
+            "**text|**kern|**kern", "a|4c|4d", "!|!!x|!y", "*|*^|*", "b|4e|4f|4g", "!n|!!|!|!!z", "!|!|!!w|!", "*-|*-|*-|*-"});
         T.due("extract", T.extract(0, "kern"), 1);
-        T.due("sort", T.x.row(1, 1, 0), 1);
-        T.dueText("written", T.written(1), Trial.rows("**kern", "!!x", "*-"));
+        T.dueText("written", T.written(1), Trial.rows(
+                "**kern|**kern", "4c|4d", "!!x|!y", "*^|*", "4e|4f|4g", "!!|!|!!z", "!|!!w|!", "*-|*-|*-"));
+        int[] sorts = {2, 4, 0, 2, 4, 0, 1, 2};
+        int[] tokens = {2, 2, 0, 2, 3, 0, 3, 3};
+        for (int r = 0; r < sorts.length; r++) {
+            T.due("sort of " + r, T.x.row(1, r, 0), sorts[r]);
+            T.due("tokens of " + r, T.x.row(1, r, 1), tokens[r]);
+        }
+        T.due("rows", T.x.told(1, 0), 8);
+        T.due("records", T.x.told(1, 1), 6);
+        T.due("most tokens", T.x.told(1, 5), 3);
+        T.noIndex("a remark has no strand", () -> T.x.strand(1, 2, 0, 0));
+        T.noIndex("a remark has no strand, whatever is asked", () -> T.x.strand(1, 5, 1, 9));
+        T.noIndex("a remark has no lengths", () -> T.x.length(1, 2, 0, 0));
+        T.due("its line has the byte 9", T.x.token(1, 2, 0, 3), 9);
+        T.due("and what is behind it", T.x.token(1, 2, 0, 5), 'y');
+        T.due("and then ends", T.x.token(1, 2, 0, 6), SpineTables.NONE);
+        T.noIndex("a remark is one line", () -> T.x.token(1, 2, 1, 0));
+        T.due("held goes on behind it", T.x.strand(1, 3, 1, 2), 1);
+        T.due("number of the last strand behind it", T.x.strand(1, 6, 2, 1), 1);
+        T.due("the length of a token behind it", T.x.length(1, 4, 2, 1), 4);
+        T.due("fits", T.x.walk(1), SpineTables.NONE);
+        T.due("the time behind all, above", T.x.time(1, 8, 0), 1);
+        T.due("the time behind all, below", T.x.time(1, 8, 1), 2);
+        T.due("read again", T.read(T.written(1)), 2);
+        T.due("is the same", T.x.same(1, 2), true);
+    }
+
+    /** Those REMARKS go when EXTRACT is taken of EXTRACT, and are put alone by ASSEMBLE. */
+    private static void remarksThatWereNotes() {
+        T.begin();
+        T.read(new String[] {"**text|**kern", "!|!!x", "a|4c", "!|!!y", "*-|*-", "!!z"});
+        T.due("extract", T.extract(0, "kern"), 1);
+        T.due("extract again", T.extract(1, "kern"), 2);
+        T.dueText("without remarks", T.written(2), Trial.rows("**kern", "4c", "*-"));
+        T.due("assemble", T.x.assemble(1, 2), 3);
+        T.dueText("remarks at the left", T.written(3), Trial.rows("**kern|**kern", "!!x", "4c|4c", "!!y", "*-|*", "*-"));
+        T.due("assemble, changed about", T.x.assemble(2, 1), 4);
+        T.dueText("remarks at the right", T.written(4), Trial.rows("**kern|**kern", "!!x", "4c|4c", "*-|*", "!!y", "*-"));
     }
 
     private static void answers() {
@@ -110,7 +148,8 @@ public final class ExtractTest {
         begins();
         endedAndEmpty();
         reckonedAnew();
-        notesThatLookLikeRemarks();
+        notesThatBecomeRemarks();
+        remarksThatWereNotes();
         answers();
         full();
         T.end("ExtractTest");
