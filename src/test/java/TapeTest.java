@@ -12,6 +12,26 @@ public final class TapeTest {
         T.due("out of a new object", T.x.out(0), SpineTables.NONE);
         T.due("cut(0) of a new object", T.x.cut(0), 0);
         T.due("cut(1) of a new object", T.x.cut(1), SpineTables.NONE);
+        T.noIndex("extract of a new object", () -> T.x.extract(0));
+        T.noIndex("assemble of a new object", () -> T.x.assemble(0, 0));
+        T.noIndex("write of a new object", () -> T.x.write(0));
+        T.due("read of its tape", T.x.read(), 0);
+        T.due("rows of that", T.x.told(0, 0), 0);
+        T.due("bytes of that", T.x.told(0, 6), 0);
+    }
+
+    /** A new object has nothing of one that was made before it. */
+    private static void objectsApart() {
+        SpineTables one = T.x;
+        T.due("a table", T.read("!!a"), 1);
+        one.write(1);
+        T.due("a fault", T.read("a"), -10);
+        one.feed(0, 0, 0, 0, 0);
+        newObject();
+        T.due("the old one has its table", one.told(1, 6), 4);
+        T.due("and its out", one.out(2), 'a');
+        T.due("and its fault", one.fault(), 3);
+        T.due("and its tape", one.cut(0), 20);
     }
 
     private static void feed() {
@@ -71,6 +91,26 @@ public final class TapeTest {
         T.due("fault stays", T.x.fault(), 0);
     }
 
+    /** The code is that of the latest read() that was not FULL: one that is FULL leaves it. */
+    private static void faultBehindFull() {
+        T.begin();
+        for (int t = 0; t < 7; t++) {
+            T.due("read", T.read("!!"), t);
+        }
+        T.due("a fault", T.read("x"), -10);
+        T.due("assemble takes the last place", T.x.assemble(0, 1), 7);
+        T.due("full", T.read("!!"), SpineTables.FULL);
+        T.due("the fault before it", T.x.fault(), 3);
+        T.due("full with a fault", T.read("**a"), SpineTables.FULL);
+        T.due("the fault before it", T.x.fault(), 3);
+        T.due("the tape is empty", T.x.cut(1), SpineTables.NONE);
+        T.x.drop(7);
+        T.due("another fault", T.read("**a"), -13);
+        T.due("its code", T.x.fault(), 8);
+        T.due("a right one", T.read("!!"), 7);
+        T.due("no fault", T.x.fault(), 0);
+    }
+
     private static void drop() {
         T.begin();
         T.due("read", T.read(new String[] {"!!a", "**kern", "*-"}), 0);
@@ -87,9 +127,11 @@ public final class TapeTest {
 
     public static void main(String[] args) {
         newObject();
+        objectsApart();
         feed();
         cut();
         read();
+        faultBehindFull();
         drop();
         T.end("TapeTest");
     }

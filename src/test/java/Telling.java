@@ -1,11 +1,16 @@
 /** All that a table tells, as one text. The object is made anew in time: behind 512 calls nothing is promised. */
 final class Telling {
-    /** Makes a table on a new object, with a hundred calls at most, and answers its number. */
+    /** Makes a table on a new object, with three hundred calls at most, and answers its number. */
     interface Making {
         int make(Trial trial);
     }
 
-    private static final int MOST_ASKED = 400;
+    /** Brings a new object, with three hundred calls at most, into a state. */
+    interface State {
+        void bring(Trial trial);
+    }
+
+    private static final int MOST_ASKED = 200;
 
     private final Trial trial = new Trial();
     private final Making making;
@@ -21,6 +26,43 @@ final class Telling {
         Telling telling = new Telling(making);
         telling.ofTable();
         return telling.told.toString();
+    }
+
+    /** All that an object tells: its tables, THE OUT, fault(), and THE TAPE by what is read from it. */
+    static String ofObject(State state) {
+        Making remade = trial -> {
+            state.bring(trial);
+            return 0;
+        };
+        Telling telling = new Telling(remade);
+        telling.ask("fault", () -> telling.trial.x.fault());
+        telling.ofOut();
+        StringBuilder all = new StringBuilder(telling.told);
+        for (int t = -1; t < 9; t++) {
+            int table = t;
+            all.append("table ").append(t).append('\n').append(of(trial -> remade.make(trial) + table));
+        }
+        return all.append(ofTape(state)).toString();
+    }
+
+    /** A place is made free for what is read. */
+    private static String ofTape(State state) {
+        Making read = trial -> {
+            state.bring(trial);
+            trial.x.drop(0);
+            return trial.x.read();
+        };
+        Trial trial = new Trial();
+        int t = read.make(trial);
+        return "tape " + t + " " + trial.x.fault() + "\n" + of(read);
+    }
+
+    private void ofOut() {
+        int last = 0;
+        for (int i = 0; i < 100 && last >= 0; i++) {
+            int at = i;
+            last = ask("out", () -> trial.x.out(at));
+        }
     }
 
     private void ofTable() {

@@ -25,6 +25,21 @@ final class Trial {
         return part.repeat(times);
     }
 
+    /** A row of one token for each of so many strands. */
+    static String all(int times, String token) {
+        return token + repeat("|" + token, times - 1);
+    }
+
+    /** A row of the token * for each of so many strands, but for those given, from the place on. */
+    static String but(int times, int place, String... tokens) {
+        StringBuilder row = new StringBuilder();
+        for (int i = 0; i < times; i++) {
+            boolean given = i >= place && i < place + tokens.length;
+            row.append(i == 0 ? "" : "|").append(given ? tokens[i - place] : "*");
+        }
+        return row.toString();
+    }
+
     void tape(String text) {
         int length = text.length();
         StringBuilder padded = new StringBuilder(text);
@@ -125,6 +140,28 @@ final class Trial {
         if (t >= 0) {
             x.drop(t);
         }
+    }
+
+    /** On a new object: the rows are a table, which has number 0 then. */
+    void right(String... rows) {
+        begin();
+        due("read of " + String.join(" / ", rows), read(rows), 0);
+        due("fault of " + String.join(" / ", rows), x.fault(), 0);
+    }
+
+    /** On a new object: the place of the FAULT is marked by @; a last row of @ alone is the end of the text. */
+    void fault(int code, String... rows) {
+        String text = rows(rows);
+        if (rows[rows.length - 1].equals("@")) {
+            text = text.substring(0, text.length() - 1);
+        }
+        faultIn(code, text);
+    }
+
+    void faultIn(int code, String text) {
+        begin();
+        int place = text.indexOf('@');
+        dueFault(text.substring(0, place) + text.substring(place + 1), code, place);
     }
 
     void end(String name) {
