@@ -146,7 +146,7 @@ public final class SpineTables {
         if (k < 0 || k >= table.kinds) {
             throw new IndexOutOfBoundsException("no such kind");
         }
-        return i < 0 || i >= MOST_KIND_BYTES ? NONE : table.nameByte(k, i);
+        return table.nameByte(k, i);
     }
 
     public int token(int t, int r, int i, int k) throws IndexOutOfBoundsException {
@@ -1644,9 +1644,6 @@ public final class SpineTables {
             putRemarksAhead(right);
             if (left.hasNext() && right.hasNext()) {
                 putBoth();
-            } else {
-                putFirstAlone(left);
-                putFirstAlone(right);
             }
             boolean meets = true;
             for (int n = 0; n < 2 * MOST_ROWS && meets && (left.hasNext() || right.hasNext()); n++) {
@@ -1657,12 +1654,6 @@ public final class SpineTables {
 
         private void putRemarksAhead(Side side) {
             for (int n = 0; n < MOST_ROWS && side.sort() == REMARK; n++) {
-                putAlone(side, side == left ? right : left);
-            }
-        }
-
-        private void putFirstAlone(Side side) {
-            if (side.hasNext()) {
                 putAlone(side, side == left ? right : left);
             }
         }

@@ -143,6 +143,28 @@ public final class ExtractEdgeTest {
         T.dueText("it stays", T.written(5), Trial.rows("**b", "*-"));
     }
 
+    /** As many STRANDS as there may be, one of them begun by *+. */
+    private static void mostStrands() {
+        due("a", rows(Trial.all(11, "**a"), Trial.but(11, 10, "*+"), Trial.but(12, 11, "**a"), Trial.all(12, "*-")),
+                Trial.all(11, "**a"), Trial.but(11, 10, "*+"), Trial.but(12, 11, "**a"), Trial.all(12, "*-"));
+        due("a", rows(Trial.all(11, "**a"), Trial.but(11, 10, "*+"), Trial.but(12, 11, "**b"), Trial.all(12, "*-")),
+                Trial.all(11, "**a"), Trial.all(11, "*-"));
+        refused(OTHER, "b", "**b|" + Trial.all(10, "**a"), Trial.but(11, 10, "*+"), Trial.but(12, 11, "**b"), Trial.all(12, "*-"));
+    }
+
+    /** The longest table, which is written with 3001 bytes, goes out as it is. */
+    private static void longest() {
+        String text = "**a\n" + Trial.repeat(Trial.repeat("x", 39) + "\n", 74) + Trial.repeat("y", 33) + "\n*-";
+        T.begin();
+        T.due("bytes", text.length(), 3000);
+        T.due("read", T.read(text), 0);
+        T.due("extract", T.extract(0, "a"), 1);
+        T.due("is the same", T.x.same(0, 1), true);
+        T.due("bytes as written", T.x.told(1, 6), 3001);
+        T.due("write", T.x.write(1), 3001);
+        T.due("its last byte", T.x.out(3000), 10);
+    }
+
     /** A call that throws leaves THE TAPE as it was. */
     private static void throwing() {
         T.right("**a", "*-");
@@ -173,6 +195,8 @@ public final class ExtractEdgeTest {
         unknown();
         other();
         full();
+        mostStrands();
+        longest();
         throwing();
         T.end("ExtractEdgeTest");
     }

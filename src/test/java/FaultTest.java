@@ -3,16 +3,22 @@ public final class FaultTest {
     private static final Trial T = new Trial();
     private static final String FORTY = Trial.repeat("a", 40);
 
+    /** The place of the FAULT is marked by @; a last row of @ alone is the end of the text. */
     private static void fault(int code, String... rows) {
-        T.fault(code, rows);
+        String text = Trial.rows(rows);
+        if (rows[rows.length - 1].equals("@")) {
+            text = text.substring(0, text.length() - 1);
+        }
+        faultIn(code, text);
     }
 
     private static void faultIn(int code, String text) {
-        T.faultIn(code, text);
+        int place = text.indexOf('@');
+        T.dueFault(text.substring(0, place) + text.substring(place + 1), code, place);
     }
 
     private static void right(String... rows) {
-        T.right(rows);
+        T.dueRight(Trial.rows(rows));
     }
 
     private static void bytes() {

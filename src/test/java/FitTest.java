@@ -116,6 +116,8 @@ public final class FitTest {
         T.due("the greatest upper part", T.x.time(0, 5, 0), 999999999);
         T.due("its lower part", T.x.time(0, 5, 1), 988027);
         misfit(4, 5, "**recip", "997%494", "991%617", "1%999", "1%12", "*-");
+        misfit(4, 5, "**recip", "997%495", "991%617", "1%999", "1%12", "*-");
+        misfit(4, 5, "**recip", "997%494", "991%617", "1%999", "1%999", "*-");
         misfit(4, 5, "**text|**recip|**kern", "x|997%494|997%494c", "x|991%617|991%617c", "x|1%999|1%999c", "x|1%11|1%12c", "*-|*-|*-");
         misfit(4, 5, "**text|**recip|**kern", "x|997%494|997%494c", "x|991%617|991%617c", "x|1%999|1%999c", "x|1%12|1%11c", "*-|*-|*-");
         // All else of the RECORD is looked at ahead of it.
@@ -129,6 +131,9 @@ public final class FitTest {
         misfit(2, 6, "**recip|**recip", "4|2", "*v|*v", "4", "*-");
         misfit(2, 6, "**recip|**recip|**recip", "4|4|2", "*v|*v|*v", "4", "*-");
         misfit(2, 6, "**recip|**recip|**recip", "2|4|2", "*v|*v|*v", "4", "*-");
+        misfit(2, 6, "**text|**recip|**recip", "x|4|2", "*|*v|*v", "*-|*-");
+        misfit(2, 6, "**recip|**recip|**recip|**recip", "4|4|4|2", "*|*|*v|*v", "*-|*-|*-");
+        misfit(2, 6, "**recip|**recip|**recip|**recip", "4|2|2|4", "*|*v|*v|*v", "*-|*-");
         // Both may sound on behind NOW.
         fits("**recip|**recip|**recip", "4|2|2", "*|*v|*v", "4|.", "*-|*-");
         dueTimes("0 0 1/4 1/4 1/2 1/2");
@@ -185,6 +190,28 @@ public final class FitTest {
         dueTimes("0 0 1/4 1/2 1 5/4 5/4");
     }
 
+    /** All twelve STRANDS count, the last one like the others. */
+    private static void twelveStrands() {
+        String first = Trial.all(12, "**recip");
+        String end = Trial.all(12, "*-");
+        fits(first, Trial.all(11, "2") + "|4", Trial.all(11, ".") + "|4", end);
+        dueTimes("0 0 1/4 1/2 1/2");
+        fits(first, Trial.all(11, "4") + "|2", Trial.but(12, 0, "*"), Trial.all(11, "4") + "|.", end);
+        dueTimes("0 0 1/4 1/4 1/2 1/2");
+        misfit(3, 2, first, Trial.all(11, "4") + "|2", Trial.but(12, 0, "*"), Trial.all(11, "4") + "|4", end);
+        misfit(2, 7, first, Trial.all(11, "4") + "|2", Trial.but(12, 11, "*-"), Trial.all(11, "*-"));
+        misfit(2, 6, first, Trial.all(11, "4") + "|2", Trial.but(12, 10, "*v", "*v"), Trial.all(11, "*-"));
+        misfit(1, 1, first, Trial.all(11, "4") + "|x", end);
+        misfit(3, 3, first, Trial.all(11, "4") + "|2", Trial.but(12, 10, "*x", "*x"), Trial.all(10, "4") + "|.|.", end);
+        // One that is split comes to stand last; so does a new one.
+        String eleven = Trial.all(10, "4") + "|2";
+        fits(Trial.all(11, "**recip"), eleven, Trial.but(11, 10, "*^"), Trial.all(10, "4") + "|.|.", end);
+        dueTimes("0 0 1/4 1/4 1/2 1/2");
+        misfit(3, 2, Trial.all(11, "**recip"), eleven, Trial.but(11, 10, "*^"), Trial.all(10, "4") + "|.|4", end);
+        fits(Trial.all(11, "**recip"), eleven, Trial.but(11, 10, "*+"), Trial.but(12, 11, "**recip"), Trial.all(10, "4") + "|.|4", end);
+        misfit(4, 3, Trial.all(11, "**recip"), eleven, Trial.but(11, 10, "*+"), Trial.but(12, 11, "**recip"), Trial.all(10, "4") + "|.|.", end);
+    }
+
     /** The first MISFIT counts; without one the table FITS. */
     private static void firstCounts() {
         misfit(1, 1, "**recip", "x", ".", "*-");
@@ -209,7 +236,8 @@ public final class FitTest {
         bars(NONE, "**recip", "*M1/99", "=", "99", "=", "*-");
         for (String other : new String[] {"*M0/4", "*M01/4", "*M1/04", "*M1/0", "*M00/4", "*M100/4", "*M1/100", "*M1/", "*M/4", "*M/", "*M", "*M1",
             "*M1/4 ", "*M 1/4", "*M1 /4", "*M1/4/4", "*m1/4", "*M1%4", "*M-1/4", "*MM1/4", "*1/4", "*M1/4."}) {
-            bars(NONE, "**recip", other, "=", "2", "=", "*-");
+            bars(NONE, "**recip", other, "=", "4", "4", "=", "*-");
+            bars(NONE, "**recip", other, "=", "2", "=", "4", "4", "8", "=", "*-");
             bars(NONE, "**recip", "*M1/2", other, "=", "2", "=", "*-");
             bars(5, "**recip", "*M1/4", other, "=", "2", "=", "*-");
         }
@@ -255,6 +283,7 @@ public final class FitTest {
         endsGoOn();
         newOnes();
         now();
+        twelveStrands();
         firstCounts();
         meters();
         latestMeter();

@@ -333,6 +333,46 @@ public final class TermsTest {
         dueStrands(7, 1, 0, 3, 0);
     }
 
+    /** As many TOKENS as go into 3000 bytes. */
+    private static void mostTokens() {
+        String text = Trial.rows(Trial.all(12, "**a")) + Trial.repeat(Trial.rows(Trial.all(12, ".")), 120) + Trial.rows(Trial.all(11, ".") + "|xyz", Trial.all(12, "*-"));
+        T.begin();
+        T.due("bytes", text.length(), 2990);
+        T.due("read", T.read(text), 0);
+        T.due("rows", T.x.told(0, 0), 123);
+        T.due("tokens", T.x.row(0, 122, 1), 12);
+        dueStrands(121, 2, NONE, NONE, NONE, NONE, NONE, NONE, NONE, NONE, NONE, NONE, NONE, 121);
+        dueStrands(122, 1, 0, 1, 2, 3, 4, 5, 6, 7, 8, 9, 10, 11);
+        T.due("a byte", T.x.token(0, 121, 11, 2), 'z');
+        T.due("bytes as written", T.x.told(0, 6), 2990);
+    }
+
+    private static String name(int n) {
+        return "" + (char) ('a' + n / 26) + (char) ('a' + n % 26);
+    }
+
+    /** As many KINDS as go into 200 ROWS: each RECORD tells one and begins the next. */
+    private static void mostKinds() {
+        StringBuilder text = new StringBuilder("**aa\n*+\n*+\t**" + name(1) + "\n");
+        for (int n = 2; n < 197; n++) {
+            text.append("*+\t**").append(name(n)).append("\t*-\n");
+        }
+        text.append("*\t**").append(name(197)).append("\t*-\n*-\t*-\n");
+        T.begin();
+        T.due("read", T.read(text.toString()), 0);
+        T.due("rows", T.x.told(0, 0), 200);
+        T.due("kinds", T.x.told(0, 4), 198);
+        for (int n = 0; n < 198; n += 7) {
+            T.due("first byte of kind " + n, T.x.kind(0, n, 0), name(n).charAt(0));
+            T.due("second byte of kind " + n, T.x.kind(0, n, 1), name(n).charAt(1));
+            T.due("no third one", T.x.kind(0, n, 2), NONE);
+        }
+        T.noIndex("one more", () -> T.x.kind(0, 198, 0));
+        dueStrands(199, 0, 0, 197);
+        dueStrands(199, 1, 0, 197);
+        dueStrands(198, 3, 0, 6, 4);
+    }
+
     /** HELD is the ROW, up to this one, of the latest DATA TOKEN that is not . alone; else NONE. */
     private static void held() {
         T.right("**a|**b", "!x|!", "!!", "=1|=1", "*K|*", "x|.", "!!", ".|..", ". |.", "!y|!z", "=|=", "*L|*L", ".|y", "*-|*-");
@@ -388,6 +428,8 @@ public final class TermsTest {
         noneIsLeft();
         withoutRecords();
         numbers();
+        mostTokens();
+        mostKinds();
         held();
         heldGoesOn();
         T.end("TermsTest");

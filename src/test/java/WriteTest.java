@@ -38,7 +38,9 @@ public final class WriteTest {
         T.due("it stays when the table goes", T.x.out(0), '!');
         T.due("write in its place", T.x.write(1), 8);
         T.due("the last byte", T.x.out(7), 10);
-        T.due("nothing of the longer one", T.x.out(8), NONE);
+        for (int i = 8; i < 40; i++) {
+            T.due("nothing of the longer one", T.x.out(i), NONE);
+        }
         T.due("an empty one", T.read(""), 0);
         T.due("is written", T.x.write(0), 0);
         T.due("nothing is there", T.x.out(0), NONE);
