@@ -9,12 +9,31 @@ import java.util.List;
 /** The public face, and what LANGUAGE.md says of members. */
 public final class FaceTest {
     private static final Trial TRIAL = new Trial();
+    private static final String INDEX = " IndexOutOfBoundsException";
+    private static final String ARGUMENT = " IllegalArgumentException";
+    private static final String STATE = " IllegalStateException";
+    /** What each method answers and takes, and what it says it throws. */
     private static final String[] FACE = {
-        "int feed(int,int,int,int,int)", "int cut(int)", "int read()", "int fault()", "int drop(int)",
-        "int told(int,int)", "int row(int,int,int)", "int strand(int,int,int,int)", "int kind(int,int,int)",
-        "int token(int,int,int,int)", "int walk(int)", "int misfit(int)", "int time(int,int,int)",
-        "int length(int,int,int,int)", "int bars(int)", "int extract(int)", "int assemble(int,int)",
-        "boolean same(int,int)", "int write(int)", "int out(int)"};
+        "int feed(int,int,int,int,int)",
+        "int cut(int)",
+        "int read()",
+        "int fault()",
+        "int drop(int)" + INDEX,
+        "int told(int,int)" + INDEX + ARGUMENT,
+        "int row(int,int,int)" + INDEX + ARGUMENT,
+        "int strand(int,int,int,int)" + INDEX + ARGUMENT,
+        "int kind(int,int,int)" + INDEX,
+        "int token(int,int,int,int)" + INDEX,
+        "int walk(int)" + INDEX,
+        "int misfit(int)" + INDEX,
+        "int time(int,int,int)" + INDEX + ARGUMENT + STATE,
+        "int length(int,int,int,int)" + INDEX + ARGUMENT + STATE,
+        "int bars(int)" + INDEX + STATE,
+        "int extract(int)" + INDEX,
+        "int assemble(int,int)" + INDEX,
+        "boolean same(int,int)" + INDEX,
+        "int write(int)" + INDEX,
+        "int out(int)"};
 
     private static void constants() {
         TRIAL.due("NONE", SpineTables.NONE, -1);
@@ -29,7 +48,12 @@ public final class FaceTest {
         for (Class<?> type : method.getParameterTypes()) {
             types.add(type.getSimpleName());
         }
-        return method.getReturnType().getSimpleName() + " " + method.getName() + "(" + String.join(",", types) + ")";
+        StringBuilder told = new StringBuilder(method.getReturnType().getSimpleName());
+        told.append(' ').append(method.getName()).append('(').append(String.join(",", types)).append(')');
+        for (Class<?> thrown : method.getExceptionTypes()) {
+            told.append(' ').append(thrown.getSimpleName());
+        }
+        return told.toString();
     }
 
     private static void members() {
